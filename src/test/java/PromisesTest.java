@@ -273,6 +273,9 @@ public final class PromisesTest {
         IslandParser longOpen = Parsers.with("<", ">", "><", "!");
         CHECKS.same("an opening word that is longer", Parsers.quick(longOpen, "<><!>"),
                 "0:0-5w 1:1-4w left 0");
+        IslandParser prefix = Parsers.with("<", ">>", ">", "!");
+        CHECKS.same("a shorter word at the same place is left", Parsers.quick(prefix, "<>>x"),
+                "0:0-3w left 0");
         IslandParser incomplete = Parsers.with("<", null, "<", ">", null, "!");
         CHECKS.same("not complete", Parsers.quick(incomplete, "<!>"), "1:0-3w left 0");
     }
@@ -403,6 +406,9 @@ public final class PromisesTest {
         CHECKS.same("a farther partner of a raw one that saves more",
                 Parsers.best(parser, "([)[])"), "0:0-6w left 0");
         CHECKS.same("raw inside", Parsers.best(parser, "[(])]"), "1:0-5w 0:1-4w left 0");
+        IslandParser rawQuotes = Parsers.with("'", "'", "(", ")");
+        rawQuotes.setKind(0, true, true, 63);
+        CHECKS.same("a mark is no partner of itself", Parsers.best(rawQuotes, "'(')"), "0:0-3w left 1");
         parser.setKind(0, false, true, 1);
         CHECKS.same("1 not directly in 0", Parsers.best(parser, "([])"), "0:0-4w left 2");
         CHECKS.same("nor deeper", Parsers.best(parser, "(([]))"), "0:0-6w 0:1-5w left 2");
