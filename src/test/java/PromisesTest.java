@@ -602,6 +602,12 @@ public final class PromisesTest {
         for (int place : new int[] {-1, due.length, 48, Integer.MAX_VALUE, Integer.MIN_VALUE}) {
             CHECKS.fails("at " + place, parser, Checks.INDEX, () -> parser.at(place));
         }
+        parser.best();
+        int[] dueThen = {-1, 0, 0, 0, 0, 0, -1, -1, -1, 1, 1};
+        for (int place = 0; place < dueThen.length; place++) {
+            CHECKS.same("at " + place + " of the next reading, with fewer islands",
+                    parser.at(place), dueThen[place]);
+        }
         Parsers.reset(parser, "").quick();
         CHECKS.fails("at 0 of an empty text", parser, Checks.INDEX, () -> parser.at(0));
     }
