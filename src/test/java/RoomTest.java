@@ -2,7 +2,7 @@ import com.sun.management.ThreadMXBean;
 import java.lang.management.ManagementFactory;
 import java.util.Random;
 
-/** Calls make no objects of their own, and the longest runs on the dearest texts come to an end. */
+/** Readings make no objects, and the longest runs on the dearest texts come to an end. */
 public final class RoomTest {
     private static final Checks CHECKS = new Checks("RoomTest");
 
