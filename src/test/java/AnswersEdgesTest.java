@@ -11,6 +11,7 @@ public final class AnswersEdgesTest {
         readingIsKept();
         readingIsForgotten();
         readingMadeLast();
+        nothingOfTheReadingBefore();
         islandCounts();
         parents();
         depths();
@@ -144,6 +145,23 @@ public final class AnswersEdgesTest {
         CHECKS.same("best again", Parsers.reading(parser), "0:0-3w left 2");
         CHECKS.same("the islands", parser.quick(), 3);
         CHECKS.same("quick again", Parsers.reading(parser), "0:0-3w 1:1-2b 0:3-4u left 0");
+    }
+
+    private static void nothingOfTheReadingBefore() {
+        CHECKS.part("a reading with fewer islands than the one before it");
+        String[] texts = {"(((((((([]", "x()()()()()[()]", "([)(x", "xx(x)xxxxx", "x", "[x]", "", "([(x)])"};
+        IslandParser parser = brackets();
+        for (String text : texts) {
+            for (char way : new char[] {'q', 'b', 'q'}) {
+                Parsers.reset(parser, "()[(])((" + "()".repeat(16)).quick();
+                Parsers.reset(parser, text);
+                CHECKS.same(way + " of " + text, way == 'q' ? parser.quick() : parser.best(),
+                        way == 'q' ? read('q', text).islandCount() : read('b', text).left());
+                CHECKS.same(way + " of " + text + " tells", Snapshots.told(parser), Snapshots.told(read(way, text)));
+                int islands = parser.islandCount();
+                CHECKS.fails("one island more", parser, Checks.INDEX, () -> parser.kind(islands));
+            }
+        }
     }
 
     private static void islandCounts() {
@@ -295,6 +313,7 @@ public final class AnswersEdgesTest {
                         (size - 1.0) / size);
             }
         }
+        CHECKS.same("inner islands are not counted twice", read('q', "x(([]))x[(]").share(), 9.0 / 11.0);
         IslandParser cut = read('q', "()");
         cut.cut(2);
         cut.quick();

@@ -23,6 +23,7 @@ public final class BestEdgesTest {
         nearerPartner();
         firstMarkThatIsDifferent();
         lenienceIsNothing();
+        anewEachTime();
         CHECKS.end();
     }
 
@@ -137,6 +138,10 @@ public final class BestEdgesTest {
         CHECKS.same("one that opens one kind and closes another", Parsers.best(both, "(|"), "0:0-2w left 0");
         CHECKS.same("in the other way", Parsers.best(both, "|)"), "1:0-2w left 0");
         CHECKS.same("not both at once", Parsers.best(both, "(|)"), "0:0-2w left 1");
+        IslandParser twins = Parsers.with("(", "|", "[", "|");
+        CHECKS.same("it closes the one that opens first", Parsers.best(twins, "([|"), "0:0-3w left 1");
+        CHECKS.same("of the other kind too", Parsers.best(twins, "[(|"), "1:0-3w left 1");
+        CHECKS.same("two of them", Parsers.best(twins, "([||"), "0:0-4w 1:1-3w left 0");
     }
 
     private static void aLaterMark() {
@@ -144,6 +149,9 @@ public final class BestEdgesTest {
         CHECKS.same("not an earlier one", Parsers.best(brackets(), ")("), "left 2");
         CHECKS.same("not of another kind", Parsers.best(brackets(), "(]"), "left 2");
         CHECKS.same("not itself", Parsers.best(Parsers.with("'", "'"), "'"), "left 1");
+        IslandParser rawQuotes = Parsers.with("'", "'", "(", ")");
+        rawQuotes.setKind(0, true, true, 63);
+        CHECKS.same("not itself in a raw kind either", Parsers.best(rawQuotes, "'(')"), "0:0-3w left 1");
         CHECKS.same("the next one", Parsers.best(brackets(), "()"), "0:0-2w left 0");
         CHECKS.same("the last one of 48", Parsers.best(brackets(), "(" + "]".repeat(46) + ")"), "0:0-48w left 46");
     }
@@ -315,5 +323,24 @@ public final class BestEdgesTest {
             parser.setLenient(false);
             CHECKS.same(text, Parsers.best(parser, text), lenient);
         }
+    }
+
+    /** Each text is read by one object behind all the others, and by a new one. */
+    private static void anewEachTime() {
+        CHECKS.part("a reading has nothing of the readings before it");
+        IslandParser parser = brackets();
+        parser.setKind(0, true, true, 63);
+        String[] texts = {"(((", "([)", ")))", "(])", "", "[[[[]", "[([)]", "]]]]]", "[[[]]", "[(]])"};
+        for (int round = 0; round < 2; round++) {
+            for (String text : texts) {
+                IslandParser fresh = brackets();
+                fresh.setKind(0, true, true, 63);
+                CHECKS.same(text, Parsers.best(parser, text), Parsers.best(fresh, text));
+                CHECKS.same(text + ", marks", Parsers.marks(parser, text), Parsers.marks(fresh, text));
+            }
+        }
+        CHECKS.same("unused", Parsers.reset(parser, "(((").best(), 3);
+        CHECKS.same("not unused", Parsers.reset(parser, "([)").best(), 0);
+        CHECKS.same("unused again", Parsers.reset(parser, "(((").best(), 3);
     }
 }

@@ -21,7 +21,39 @@ public final class RandomRunsTest {
             CHECKS.part("seed " + seed);
             new RandomRunsTest(seed).run();
         }
+        for (int seed = 0; seed < 1500; seed++) {
+            CHECKS.part("full text, seed " + seed);
+            new RandomRunsTest(seed).readFullText();
+        }
         CHECKS.end();
+    }
+
+    /** Up to 48 marks, which the other runs seldom have, in kinds that are all complete. */
+    private void readFullText() {
+        int kinds = 2 + random.nextInt(5);
+        int longest = 1 + random.nextInt(2);
+        for (int kind = 0; kind < kinds; kind++) {
+            setSomeWord(kind, false, 1 + random.nextInt(longest));
+            setSomeWord(kind, true, 1 + random.nextInt(longest));
+            if (random.nextInt(3) != 0) {
+                callSetKind();
+            }
+        }
+        reference.text = signs(48 - random.nextInt(3));
+        Parsers.feed(parser, reference.text);
+        reference.islands = null;
+        callBest();
+        askAll();
+        callSetLenient();
+        callQuick();
+        askAll();
+    }
+
+    private void setSomeWord(int kind, boolean isClosing, int many) {
+        String word = signs(many);
+        (isClosing ? reference.closing : reference.opening)[kind] = word;
+        CHECKS.same("setWord " + kind + " " + isClosing + " " + word,
+                parser.setWord(kind, isClosing, (int) Parsers.packed(word), many), reference.complete(kind));
     }
 
     private void run() {
@@ -186,8 +218,13 @@ public final class RandomRunsTest {
     private void callBest() {
         if (reference.markPlaces().size() <= MOST_TRIED_MARKS) {
             reference.best();
-            CHECKS.same("best", parser.best(), reference.left);
+            String tried = reference.islands + " " + reference.left;
+            reference.bestOfMany();
+            CHECKS.same("the reference's two ways", reference.islands + " " + reference.left, tried);
+        } else {
+            reference.bestOfMany();
         }
+        CHECKS.same("best", parser.best(), reference.left);
     }
 
     private void askAll() {

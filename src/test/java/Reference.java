@@ -4,7 +4,8 @@ import java.util.List;
 
 /**
  * The document's class written a second time, in another way: words as Strings, a best reading by
- * trying every reading. It is slow and only for tests; exceptions are told as texts.
+ * trying every reading, or, of many marks, by comparing whole readings. It is slow and only for tests;
+ * exceptions are told as texts.
  */
 final class Reference {
     record Island(int kind, int start, int end, int state) {
@@ -221,6 +222,80 @@ final class Reference {
             }
         }
         tryFrom(mark + 1, words, pairs, open, unused + 1);
+    }
+
+    // ---- best, of more marks than every reading of them could be tried
+
+    private static final int NOT_FIRST = 1000;
+    private static final int UNUSED = 2000;
+
+    /**
+     * A reading of some marks in a row: how many are unused, and what each one does, the smaller number
+     * before the greater one. A mark that closes, or is in a raw pair, is never the first one in which
+     * two readings are different.
+     */
+    private record Stretch(int unused, int[] deeds) {
+        boolean isBetterThan(Stretch other) {
+            return unused != other.unused ? unused < other.unused : Arrays.compare(deeds, other.deeds) < 0;
+        }
+    }
+
+    private Stretch[][][] known;
+
+    /** Compares whole readings of a stretch with one another, where the class counts and then chooses. */
+    void bestOfMany() {
+        List<String> words = markWords();
+        List<Integer> places = markPlaces();
+        known = new Stretch[7][words.size() + 1][words.size() + 1];
+        Stretch best = bestStretch(0, words.size(), -1, words);
+        left = best.unused;
+        islands = new ArrayList<>();
+        for (int mark = 0; mark < words.size(); mark++) {
+            if (best.deeds[mark] < NOT_FIRST) {
+                int to = best.deeds[mark] % 64;
+                islands.add(new Island(best.deeds[mark] / 64, places.get(mark),
+                        places.get(to) + words.get(to).length(), 0));
+            }
+        }
+    }
+
+    private Stretch bestStretch(int from, int to, int around, List<String> words) {
+        if (from == to) {
+            return new Stretch(0, new int[0]);
+        }
+        if (known[around + 1][from][to] != null) {
+            return known[around + 1][from][to];
+        }
+        Stretch behind = bestStretch(from + 1, to, around, words);
+        Stretch best = new Stretch(1 + behind.unused, joined(UNUSED, new int[0], behind.deeds));
+        for (int kind = 0; kind < 6; kind++) {
+            boolean opens = complete(kind) && words.get(from).equals(opening[kind]) && allowed(kind, around);
+            for (int partner = from + 1; opens && partner < to; partner++) {
+                if (words.get(partner).equals(closing[kind])) {
+                    Stretch paired = pairedStretch(from, partner, to, kind, around, words);
+                    best = paired.isBetterThan(best) ? paired : best;
+                }
+            }
+        }
+        known[around + 1][from][to] = best;
+        return best;
+    }
+
+    private Stretch pairedStretch(int from, int partner, int to, int kind, int around, List<String> words) {
+        int[] rawDeeds = new int[partner - from - 1];
+        Arrays.fill(rawDeeds, NOT_FIRST);
+        Stretch inside = raw[kind] ? new Stretch(0, rawDeeds) : bestStretch(from + 1, partner, kind, words);
+        Stretch behind = bestStretch(partner + 1, to, around, words);
+        return new Stretch(inside.unused + behind.unused, joined(64 * kind + partner, inside.deeds,
+                joined(NOT_FIRST, new int[0], behind.deeds)));
+    }
+
+    private static int[] joined(int first, int[] second, int[] third) {
+        int[] all = new int[1 + second.length + third.length];
+        all[0] = first;
+        System.arraycopy(second, 0, all, 1, second.length);
+        System.arraycopy(third, 0, all, 1 + second.length, third.length);
+        return all;
     }
 
     // ---- what a reading tells
