@@ -5,10 +5,12 @@ import java.lang.reflect.Method;
 import java.lang.reflect.Modifier;
 import java.nio.file.Files;
 import java.nio.file.Path;
+import java.util.ArrayList;
 import java.util.Arrays;
 import java.util.List;
 import java.util.Set;
 import java.util.TreeSet;
+import java.util.regex.Matcher;
 import java.util.regex.Pattern;
 import java.util.stream.Collectors;
 
@@ -16,42 +18,34 @@ import java.util.stream.Collectors;
 public final class FaceTest {
     private static final Checks CHECKS = new Checks("FaceTest");
 
-    private static final List<String> FACE = List.of(
-            "int feed(long) IllegalArgumentException IllegalStateException",
-            "int cut(int) IllegalArgumentException",
-            "int set(int, int) IndexOutOfBoundsException IllegalArgumentException",
-            "int size()",
-            "int byteAt(int) IndexOutOfBoundsException",
-            "int setEscape(int) IllegalArgumentException",
-            "boolean setWord(int, boolean, int, int) IndexOutOfBoundsException IllegalArgumentException",
-            "int setKind(int, boolean, boolean, int) IndexOutOfBoundsException IllegalArgumentException",
-            "boolean setLenient(boolean)",
-            "int quick()",
-            "int best()",
-            "boolean hasReading()",
-            "int markCount()",
-            "int mark(int) IndexOutOfBoundsException",
-            "int islandCount() IllegalStateException",
-            "int kind(int) IllegalStateException IndexOutOfBoundsException",
-            "int start(int) IllegalStateException IndexOutOfBoundsException",
-            "int end(int) IllegalStateException IndexOutOfBoundsException",
-            "int state(int) IllegalStateException IndexOutOfBoundsException",
-            "int parent(int) IllegalStateException IndexOutOfBoundsException",
-            "int depth(int) IllegalStateException IndexOutOfBoundsException",
-            "int own(int) IllegalStateException IndexOutOfBoundsException",
-            "int at(int) IllegalStateException IndexOutOfBoundsException",
-            "int count(int, int) IllegalStateException IndexOutOfBoundsException",
-            "int water() IllegalStateException",
-            "int left() IllegalStateException",
-            "double share() IllegalStateException",
-            "long digest()");
+    private static final Pattern FACE_BLOCK = Pattern.compile(
+            "## The public face\\s+```java\n(.*?)```", Pattern.DOTALL);
+    private static final Pattern FACE_METHOD = Pattern.compile(
+            "public (\\w+) (\\w+)\\((.*?)\\)(?: throws (.*))?;");
 
     public static void main(String[] args) throws IOException {
-        face();
-        hiddenMembers();
-        source(Files.readString(Path.of(args.length > 0 ? args[0] : ".",
-                "src/main/java/IslandParser.java")));
+        Path project = Path.of(args.length > 0 ? args[0] : ".");
+        List<String> face = documentedFace(Files.readString(project.resolve("../shared/DOC.md")));
+        face(face);
+        hiddenMembers(face);
+        source(Files.readString(project.resolve("src/main/java/IslandParser.java")));
         CHECKS.end();
+    }
+
+    /** The methods of the document's face, each as it is told of a method of the class. */
+    private static List<String> documentedFace(String document) {
+        Matcher block = FACE_BLOCK.matcher(document);
+        List<String> face = new ArrayList<>();
+        if (block.find()) {
+            for (Matcher row = FACE_METHOD.matcher(block.group(1)); row.find();) {
+                String parameters = row.group(3).replaceAll("(\\w+) \\w+", "$1");
+                String thrown = row.group(4) == null ? "" : " " + row.group(4).replace(",", "");
+                face.add(row.group(1) + " " + row.group(2) + "(" + parameters + ")" + thrown);
+            }
+        }
+        CHECKS.part("the document's face");
+        CHECKS.same("the methods of the promises 2 to 29", face.size(), 28);
+        return face;
     }
 
     private static String told(Method method) {
@@ -62,7 +56,7 @@ public final class FaceTest {
         return method.getReturnType().getSimpleName() + " " + method.getName() + parameters + thrown;
     }
 
-    private static void face() {
+    private static void face(List<String> face) {
         CHECKS.part("the face");
         Set<String> found = new TreeSet<>();
         for (Method method : IslandParser.class.getDeclaredMethods()) {
@@ -70,16 +64,16 @@ public final class FaceTest {
                 found.add(told(method));
             }
         }
-        CHECKS.same("the public methods", found, new TreeSet<>(FACE));
+        CHECKS.same("the public methods", found, new TreeSet<>(face));
         CHECKS.same("the class", Modifier.toString(IslandParser.class.getModifiers()), "public final");
         Constructor<?>[] constructors = IslandParser.class.getDeclaredConstructors();
         CHECKS.same("the constructors", Arrays.toString(constructors), "[public IslandParser()]");
     }
 
-    private static void hiddenMembers() {
+    private static void hiddenMembers(List<String> face) {
         CHECKS.part("rule 1");
         Set<String> publicNames = new TreeSet<>();
-        for (String row : FACE) {
+        for (String row : face) {
             publicNames.add(row.substring(row.indexOf(' ') + 1, row.indexOf('(')));
         }
         for (Method method : IslandParser.class.getDeclaredMethods()) {
@@ -122,5 +116,44 @@ public final class FaceTest {
             String whole = Character.isLetter(word.charAt(0)) ? "\\b" + word : word;
             CHECKS.same("it holds " + word, Pattern.compile(whole).matcher(code).find(), false);
         }
+        CHECKS.same("it uses of the library", found(code, "\\b([A-Z][a-z]\\w*\\.\\w+)"), Set.of("Math.min"));
+        CHECKS.same("it makes", found(code, "(?<!throw )new (\\w+\\W)"),
+                Set.of("Text(", "Kinds(", "Islands(", "Marks(", "BestReader(", "int[", "long["));
+        CHECKS.same("it throws", found(code, "throw (.*?Exception\\(\")[^\"]*\"\\);"), Set.of(
+                "new IllegalArgumentException(\"", "new IllegalStateException(\"",
+                "new IndexOutOfBoundsException(\""));
+        CHECKS.same("each throw has a written text", count(code, "\\bthrow "),
+                count(code, "throw new \\w+\\(\"[^\"]*\"\\);"));
+        CHECKS.same("it has some twelve classes at most", count(code, "\\bclass ") <= 12, true);
+        lengths(code);
+    }
+
+    private static Set<String> found(String code, String pattern) {
+        return Pattern.compile(pattern).matcher(code).results().map(result -> result.group(1))
+                .collect(Collectors.toCollection(TreeSet::new));
+    }
+
+    private static long count(String code, String pattern) {
+        return Pattern.compile(pattern).matcher(code).results().count();
+    }
+
+    /** A method ends with a brace that stands as far to the right as the method's first line. */
+    private static void lengths(String code) {
+        Matcher method = Pattern.compile("^( {4,8})(?! |[^\n]*\\bclass )[^=;\n]*\\([^;=]*?\\{\n.*?^\\1\\}$",
+                Pattern.DOTALL | Pattern.MULTILINE).matcher(code);
+        int methods = 0;
+        for (; method.find(); methods++) {
+            String[] lines = method.group().split("\n");
+            CHECKS.same("some sixty lines at most: " + lines[0].strip(), lines.length <= 60, true);
+        }
+        CHECKS.same("the methods and constructors that were found", methods, declared());
+    }
+
+    private static int declared() {
+        int many = IslandParser.class.getDeclaredMethods().length + 1;
+        for (Class<?> inside : IslandParser.class.getDeclaredClasses()) {
+            many += inside.getDeclaredMethods().length + inside.getDeclaredConstructors().length;
+        }
+        return many;
     }
 }
